@@ -277,9 +277,8 @@ public final class NumeralTexts {
         private static final int MOST_LAST = 7;
         /** A power this great outweighs all the digits that the tape can hold, and stays far from where int wraps. */
         private static final int MOST_POWER = 100000;
-        /** 10 to this power is above every real, and all that is below 10 to the other is nearest to 0. */
+        /** 10 to this power is above every real. */
         private static final int HIGHEST_PLACE = 309;
-        private static final int LOWEST_PLACE = -330;
         /** So many digits with 16 are more bits than a real has, and still fit into a long. */
         private static final int ENOUGH_OF_16 = 15;
 
@@ -416,7 +415,7 @@ public final class NumeralTexts {
             }
         }
 
-        /** False when the number is above every real; the room is left at 0 when it is nearest to 0. */
+        /** False when the number is above every real. Places too low for the room are only in numbers nearest to 0. */
         private boolean putDigits(Decimal room) {
             int place = before - 1 + power;
             room.clear();
@@ -424,9 +423,6 @@ public final class NumeralTexts {
                 int digit = digitOf(tape.at(i), false);
                 if (digit > 0 && place > HIGHEST_PLACE) {
                     return false;
-                }
-                if (digit > 0 && place < LOWEST_PLACE && room.isZero()) {
-                    return true;
                 }
                 if (digit > 0) {
                     room.addAt(place, digit);
@@ -547,7 +543,7 @@ public final class NumeralTexts {
         private static final int LIMB = 9;
         private static final int BASE = 1000000000;
         private static final int[] TENS = {1, 10, 100, 1000, 10000, 100000, 1000000, 10000000, 100000000};
-        /** 36 limbs before the point hold 10^310; behind it 1,530 digits are the most (1,200 typed, from 10^-330 on). */
+        /** 36 limbs before the point hold 10^310; behind it, 1,200 typed digits have room that begin at 10^-340 or above. */
         private static final int UNITS = 35;
         private static final int LIMBS = UNITS + 1 + 172;
         /** A multiple of nine that keeps places from being negative where they are divided: / rounds towards 0. */
@@ -605,10 +601,6 @@ public final class NumeralTexts {
             }
             first = UNITS;
             last = UNITS;
-        }
-
-        boolean isZero() {
-            return first == last && limb(first) == 0;
         }
 
         /** The power of 10 of the first digit; 0 for 0. */

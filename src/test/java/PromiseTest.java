@@ -1,3 +1,5 @@
+import java.math.BigDecimal;
+import java.math.BigInteger;
 import java.util.Arrays;
 
 /** Each promise of the document with ordinary inputs, the edges that it names, and wrong inputs. */
@@ -159,6 +161,7 @@ public final class PromiseTest {
         dueRead("18446744073709551617", 2, 1, 64);
         dueRead("0xfF", 1, 255, 0);
         dueRead("-0XaB", 1, -171, 0);
+        dueRead("0xAFaf09", 1, 0xAFaf09, 0);
         dueRead("0x8000000000000000", 1, Long.MIN_VALUE, 0);
         dueRead("-0x8000000000000000", 1, Long.MIN_VALUE, 0);
         dueRead("0x10123456789abcdef", 1, 0x0123456789abcdefL, 0);
@@ -181,6 +184,15 @@ public final class PromiseTest {
         dueRead("1e308", 2, me(1e308)[0], (int) me(1e308)[1]);
         dueRead("1e309", 3, 0, 0);
         dueRead("-1e309", 4, 0, 0);
+        dueRead("1e310", 3, 0, 0);
+        dueRead("-1e99999999999999999999", 4, 0, 0);
+        BigInteger least = BigInteger.ONE.shiftLeft(1024).subtract(BigInteger.ONE.shiftLeft(970));
+        dueRead(least.toString(), 3, 0, 0);
+        dueRead("-" + least, 4, 0, 0);
+        dueRead(least.subtract(BigInteger.ONE) + "." + "9".repeat(800), 2, (1L << 53) - 1, 971);
+        String middle = new BigDecimal(Double.MIN_VALUE).divide(BigDecimal.valueOf(2)).toPlainString();
+        dueRead(middle, 2, 0, 0);
+        dueRead(middle + "0".repeat(1199 - middle.length()) + "1", 2, 1, -1074);
         dueRead("-1e-99999999999999999999", 2, 0, 0);
         dueRead("9007199254740993.0", 2, 1, 53);
         dueRead("9007199254740995.0", 2, 2251799813685249L, 2);
@@ -353,6 +365,8 @@ public final class PromiseTest {
         dueForm(x, "#08x", "0x00002a");
         dueForm(x, "#08.4x", "  0x002a");
         dueForm(x, "-#8x", "0x2a    ");
+        dueForm(x, "-6x", "2a    ");
+        dueForm(x, "-+ #06d", "+42   ");
         dueForm(x, "o", "52");
         dueForm(x, "#o", "052");
         dueForm(x, "#.2o", "052");
@@ -383,6 +397,7 @@ public final class PromiseTest {
         dueForm(ofText("1.5"), ".0f", "2");
         dueForm(ofText("2.5"), ".0f", "2");
         dueForm(ofText("2.5"), "#.0f", "2.");
+        dueForm(ofText("2.5"), "-4.0f", "2   ");
         dueForm(ofText("0.125"), ".2f", "0.12");
         dueForm(ofText("0.375"), ".2f", "0.38");
         dueForm(ofText("-0.001"), ".2f", "-0.00");
@@ -393,7 +408,7 @@ public final class PromiseTest {
         dueForm(ofReal(0, 0), "f", "0.000000");
         dueForm(ofText("1e22"), ".0f", "10000000000000000000000");
         dueForm(ofText("1e23"), ".1f", "99999999999999991611392.0");
-        dueForm(ofReal(-1, 1023), ".99f", "-" + new java.math.BigDecimal(0x1p1023).toPlainString() + "." + "0".repeat(99));
+        dueForm(ofReal(-1, 1023), ".99f", "-" + new BigDecimal(0x1p1023).toPlainString() + "." + "0".repeat(99));
         dueForm(ofReal(1, -1074), ".99f", "0." + "0".repeat(99));
     }
 
@@ -517,6 +532,7 @@ public final class PromiseTest {
         dueShortest(ofText("-0.3"), "-3e-01");
         dueShortest(ofText("0.30000000000000004"), "3.0000000000000004e-01");
         dueShortest(ofText("1e23"), "1e+23");
+        dueShortest(ofText("1e45"), "1e+45");
         dueShortest(ofText("123456.0"), "1.23456e+05");
         dueShortest(ofWhole(1000), "1e+03");
         dueShortest(ofWhole(9007199254740993L), "9.007199254740992e+15");
