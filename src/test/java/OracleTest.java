@@ -91,19 +91,23 @@ public final class OracleTest {
         return sign + exact.abs().setScale(precision, RoundingMode.HALF_EVEN).toPlainString();
     }
 
-    private static void writing(double d) {
+    private static void dueForm(double d, char letter, int precision, String want) {
         NumeralTexts x = of(d);
+        due("form " + letter + " of " + d, page(x, x.form(letter, 0, 0, precision)), want);
+    }
+
+    private static void writing(double d) {
         BigDecimal exact = new BigDecimal(d);
         int precision = RANDOM.nextInt(RANDOM.nextBoolean() ? 100 : 8);
-        due("form e of " + d, page(x, x.form('e', 0, 0, precision)), formE(exact, precision));
-        due("form f of " + d, page(x, x.form('f', 0, 0, precision)), formF(exact, precision));
+        dueForm(d, 'e', precision, formE(exact, precision));
+        dueForm(d, 'f', precision, formF(exact, precision));
         if (Math.abs(d) >= Double.MIN_NORMAL) {
-            String hex = Double.toHexString(d).replace(".0p", "p").replaceAll("p(?=[0-9])", "p+");
-            due("form a of " + d, page(x, x.form('a', 0, 0, -1)), hex);
+            dueForm(d, 'a', -1, Double.toHexString(d).replace(".0p", "p").replaceAll("p(?=[0-9])", "p+"));
         }
         for (int p = 0; p <= 16; p++) {
             String text = formE(exact, p);
             if (Double.parseDouble(text) == d) {
+                NumeralTexts x = of(d);
                 due("digits of shortest of " + d, x.shortest(), p + 1);
                 due("shortest of " + d, page(x, text.length()), text);
                 break;
@@ -113,8 +117,13 @@ public final class OracleTest {
 
     private static void dueReading(String text, double d) {
         NumeralTexts x = new NumeralTexts();
-        for (int i = 0; i < text.length(); i++) {
-            x.type(text.charAt(i), 1);
+        for (int from = 0; from < text.length(); from += 8) {
+            int to = Math.min(text.length(), from + 8);
+            long bytes = 0;
+            for (int i = from; i < to; i++) {
+                bytes = bytes << 8 | text.charAt(i);
+            }
+            x.type(bytes, to - from);
         }
         int kind = x.read();
         if (Double.isInfinite(d)) {
