@@ -329,6 +329,16 @@ public final class BoundaryTest {
         dueBothSigns("0x20000000000000." + "f".repeat(1182), 2, 1, 53);
         dueBothSigns("0x1.00000000000008" + "0".repeat(1100) + "1", 2, (1L << 52) + 1, -52);
         dueBothSigns("0x1.00000000000007" + "f".repeat(1100), 2, 1, 0);
+        for (int power = 1; power <= 970; power += 17) {
+            BigInteger between = BigInteger.valueOf(TWO53 + 1).shiftLeft(power);
+            dueBothSigns(between.subtract(BigInteger.ONE) + ".9", 2, 1, 53 + power);
+            dueBothSigns(between + ".", 2, 1, 53 + power);
+            dueBothSigns(between + "." + "0".repeat(880) + "1", 2, (1L << 52) + 1, power + 1);
+            dueBothSigns(between.add(BigInteger.ONE) + ".", 2, (1L << 52) + 1, power + 1);
+        }
+        dueBothSigns("0x" + "0".repeat(500) + "1.00000000000008" + "0".repeat(600) + "1p0", 2, (1L << 52) + 1, -52);
+        dueBothSigns("0x." + "0".repeat(500) + "100000000000008" + "0".repeat(600) + "1p2004", 2, (1L << 52) + 1, -52);
+        dueBothSigns("0x." + "0".repeat(500) + "100000000000008" + "0".repeat(600) + "0p2004", 2, 1, 0);
         String middle = new BigDecimal(Double.MIN_VALUE).divide(BigDecimal.valueOf(2)).toPlainString();
         dueRead(middle + "0".repeat(1199 - middle.length()) + "1", 2, 1, -1074);
         String below = middle.substring(0, middle.length() - 1) + "4";
@@ -992,7 +1002,7 @@ public final class BoundaryTest {
         dueForms(1, -100, ".99f", new BigDecimal(0x1p-100).toPlainString().substring(0, 100) + "2");
         BigInteger most = BigInteger.valueOf(TWO53 - 1).shiftLeft(971);
         dueForms(TWO53 - 1, 971, ".0f", most.toString(), ".99f", most + "." + "0".repeat(99));
-        dueForms(1 - TWO53, 971, "#.0f", "-" + most + ".");
+        dueForms(1 - TWO53, 971, "#.0f", "-" + most + ".", ".99f", "-" + most + "." + "0".repeat(99));
     }
 
     private static void formE() {
@@ -1014,6 +1024,15 @@ public final class BoundaryTest {
         dueForms("1234566.5", ".6e", "1.234566e+06");
         dueForms("0x1.0000000000001p1", ".0e", "2e+00");
         dueForms("0x1.4000000000001p1", ".0e", "3e+00");
+        dueForms("250.0", ".0e", "2e+02");
+        dueForms("251.0", ".0e", "3e+02");
+        dueForms("249.0", ".0e", "2e+02");
+        dueForms("350.0", ".0e", "4e+02");
+        dueForms("25000000000.0", ".0e", "2e+10");
+        dueForms("25000000001.0", ".0e", "3e+10");
+        dueForms("24999999999.0", ".0e", "2e+10");
+        dueForms("25000000000000000000.0", ".0e", "2e+19");
+        dueForms("25000000512000000000.0", ".0e", "3e+19");
         dueForms(1, -1074, ".0e", "5e-324", ".1e", "4.9e-324",
             ".98e", digitsOf(new BigDecimal(Double.MIN_VALUE), 98), ".99e", digitsOf(new BigDecimal(Double.MIN_VALUE), 99));
         dueForms(TWO53 - 1, 971, ".0e", "2e+308", ".15e", "1.797693134862316e+308",
@@ -1279,6 +1298,7 @@ public final class BoundaryTest {
         typeBad();
         typeFull();
         readKinds();
+        readAfterRead();
         readWrong();
         emptyAfterWrong();
     }
@@ -1381,6 +1401,25 @@ public final class BoundaryTest {
         typeText(y, "34");
         y.read();
         due("what was written stays", page(y), "12");
+    }
+
+    /** Nothing of one text is left over in the next, whatever both are. */
+    private static void readAfterRead() {
+        sentence("Promise 3", "The tape is read as a text of a number, and is empty then: that is the value:");
+        String[] texts = {"", "7", "-0", "12.5", ".0625", "-3e2", "5e-3", "1e999", "-1e999", "1e-999", "0e9", "0.0",
+            "-9223372036854775808", "9".repeat(300), "0." + "0".repeat(300) + "9", "-0xff", "0x.8", "0x1p-3", "0x1p9999",
+            "-0x1p-9999", "0x" + "f".repeat(40) + "p0", "12x", ".", "1.5e", "-", "0x1.8p+", " -8 "};
+        for (String first : texts) {
+            for (String second : texts) {
+                NumeralTexts x = ofText(first);
+                NumeralTexts y = ofText(second);
+                boolean isWrong = y.kind() == 1 && y.number() == 0 && !second.equals("-0");
+                NumeralTexts want = isWrong ? ofText(first) : y;
+                typeText(x, second);
+                due(shown(second) + " read after " + shown(first), x.read() < 0, isWrong);
+                dueValue(shown(second) + " after " + shown(first), x, want.kind(), want.number(), want.exponent());
+            }
+        }
     }
 
     private static void readWrong() {
@@ -1563,6 +1602,7 @@ public final class BoundaryTest {
 
     private static void promises10And11() {
         plainBytes();
+        writtenAfterWritten();
         wholeAsReal();
         realAsWhole();
         valueStays();
@@ -1581,6 +1621,40 @@ public final class BoundaryTest {
             duePlain(x, new String[] {"-6", "-0.625", "inf", "-inf", "nan"}[kind - 1]);
             dueKind("plain()", x, kind);
         }
+    }
+
+    /** Nothing of one text is left over in the next, whatever both are. */
+    private static void writtenAfterWritten() {
+        sentence("Promise 11", "The value is written by a FORM");
+        String[] values = {"0", "-1", "255", "9223372036854775807", "0.0", "-0.5", "1e300", "-5e-324", "1e999"};
+        String[] forms = {"d", "#x", "+.5o", ".0f", "-99.3e", "099.20g", "#A", "99.99f", "plain", "shortest"};
+        for (String firstValue : values) {
+            for (String secondValue : values) {
+                for (String first : forms) {
+                    for (String second : forms) {
+                        dueWrittenAfter(firstValue, first, secondValue, second);
+                    }
+                }
+            }
+        }
+    }
+
+    private static void dueWrittenAfter(String firstValue, String first, String secondValue, String second) {
+        NumeralTexts x = ofText(firstValue);
+        write(x, first);
+        typeText(x, secondValue);
+        x.read();
+        NumeralTexts fresh = ofText(secondValue);
+        int want = write(fresh, second);
+        String what = second + " of " + secondValue + " after " + first + " of " + firstValue;
+        due(what, write(x, second), want);
+        if (want != BAD) {
+            due(what, page(x), page(fresh));
+        }
+    }
+
+    private static int write(NumeralTexts x, String how) {
+        return how.equals("plain") ? x.plain() : how.equals("shortest") ? x.shortest() : callForm(x, how);
     }
 
     private static void wholeAsReal() {
@@ -1650,7 +1724,7 @@ public final class BoundaryTest {
         }
         due("0 with precision -1", empty().form('d', 0, 0, -1), 1);
         due("0 with precision 0", empty().form('d', 0, 0, 0), 0);
-        due("the longest", ofReal(-1, 1023).form('f', 31, 99, 99), 409);
+        due("the longest", ofReal(1 - TWO53, 971).form('f', 31, 99, 99), 410);
     }
 
     private static void formBad() {
@@ -1811,9 +1885,9 @@ public final class BoundaryTest {
         x.whole(0);
         due("no byte", x.form('d', 0, 0, 0), 0);
         due("written(0) of no byte", x.written(0), BAD);
-        NumeralTexts y = ofReal(-1, 1023);
-        due("the longest", y.form('f', 0, 0, 99), 409);
-        due("its last byte", y.written(408), (int) '0');
-        due("behind it", y.written(409), BAD);
+        NumeralTexts y = ofReal(1 - TWO53, 971);
+        due("the longest", y.form('f', 0, 0, 99), 410);
+        due("its last byte", y.written(409), (int) '0');
+        due("behind it", y.written(410), BAD);
     }
 }
