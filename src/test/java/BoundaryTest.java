@@ -880,11 +880,26 @@ public final class BoundaryTest {
     // ---- Terms: d, x, X, o
 
     private static void termsOfFormsOfWholes() {
+        lettersOfForms();
         flagsWidthsPrecisions();
         digitsOfWholes();
         asManyAsThePrecision();
         noneForZero();
         sharpOfWholes();
+    }
+
+    private static void lettersOfForms() {
+        sentence("Promise 11", "FORMS are d, x, X, o (whole numbers) and e, E, f, F, g, G, a, A (reals),");
+        String[] wants = {"10", "a", "A", "12", "1.000000e+01", "1.000000E+01", "10.000000", "10.000000", "10", "10",
+            "0x1.4p+3", "0X1.4P+3"};
+        for (int i = 0; i < LETTERS.length(); i++) {
+            dueForms(10, "" + LETTERS.charAt(i), wants[i]);
+            dueForms(10, 0, "" + LETTERS.charAt(i), wants[i]);
+        }
+        for (char letter : "bcDhHiIOpPuUwWyYzZsn@`0 \0".toCharArray()) {
+            due("letter " + letter, ofWhole(10).form(letter, 0, 0, -1), BAD);
+            due("letter " + letter + " of a real", ofReal(10, 0).form(letter, 0, 0, -1), BAD);
+        }
     }
 
     private static void flagsWidthsPrecisions() {
@@ -1119,7 +1134,23 @@ public final class BoundaryTest {
     private static void termsOfFormA() {
         formADigits();
         formAFirstDigit();
+        formALetters();
         formARounded();
+        formAPoint();
+    }
+
+    private static void formALetters() {
+        sentence("Promise 11", "digits are small or great letters;");
+        dueForms(0x1234567L, 0, "a", "0x1.234567p+24", "A", "0X1.234567P+24");
+        dueForms(0x189abcdefL, 0, "a", "0x1.89abcdefp+32", "A", "0X1.89ABCDEFP+32");
+        dueForms(0x189abcdefL, 0, ".3a", "0x1.89bp+32", ".3A", "0X1.89BP+32", ".9A", "0X1.89ABCDEF0P+32");
+    }
+
+    private static void formAPoint() {
+        sentence("Promise 11", "The point as above.");
+        dueForms(1, 0, "a", "0x1p+0", "#a", "0x1.p+0", ".0a", "0x1p+0", "#.0a", "0x1.p+0", ".1a", "0x1.0p+0");
+        dueForms(3, -1, "a", "0x1.8p+0", "#a", "0x1.8p+0", ".0A", "0X2P+0", "#.0A", "0X2.P+0");
+        dueForms(0, 0, "a", "0x0p+0", "#a", "0x0.p+0", "#.0A", "0X0.P+0");
     }
 
     private static void formADigits() {
