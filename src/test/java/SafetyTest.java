@@ -64,6 +64,12 @@ public final class SafetyTest {
         want.add("public int" + at + "shortest()");
         want.add("public int" + at + "written(int)");
         due("the face", seen.toString(), want.toString());
+        due("the class", Modifier.toString(NumeralTexts.class.getModifiers()), "public final");
+        for (Class<?> inside : NumeralTexts.class.getDeclaredClasses()) {
+            int modifiers = inside.getModifiers();
+            due(inside + " is seen outside", Modifier.isPublic(modifiers) || Modifier.isProtected(modifiers), false);
+            due(inside + " is static", Modifier.isStatic(modifiers), true);
+        }
         due("BAD", NumeralTexts.BAD, -1);
         due("FULL", NumeralTexts.FULL, -3);
     }
