@@ -62,7 +62,7 @@ public final class ModelTest {
     private static void anyStep() {
         int step = RANDOM.nextInt(20);
         if (step < 6) {
-            typeText(Texts.any());
+            typeText(RANDOM.nextInt(60) == 0 ? Texts.asLongAsTheTape() : Texts.any());
             read();
             askValue();
         } else if (step < 8) {
@@ -76,6 +76,10 @@ public final class ModelTest {
         } else if (step < 13) {
             plain();
         } else if (step < 14) {
+            shortest();
+        } else if (step < 15 && RANDOM.nextBoolean()) {
+            typeText(Texts.powerOf10());
+            read();
             shortest();
         } else if (step < 15) {
             typeWrongly();
@@ -148,8 +152,10 @@ public final class ModelTest {
     }
 
     private static void shortest() {
-        due("shortest()", object.shortest(), model.shortest());
-        askPage();
+        if (mayCall()) {
+            due("shortest()", object.shortest(), model.shortest());
+            askPage();
+        }
     }
 
     private static int oddly(int usual, int... odd) {
@@ -225,6 +231,16 @@ public final class ModelTest {
             return text;
         }
 
+        /** The last bytes may find the tape full. */
+        static String asLongAsTheTape() {
+            String digit = oneOf("0", "9", "5");
+            return oneOf("0x", "1.", "", ".", "0x.8") + digit.repeat(1190 + RANDOM.nextInt(12)) + oneOf("", "1", " ", "e9", "p2");
+        }
+
+        static String powerOf10() {
+            return "1e" + (RANDOM.nextInt(636) - 325);
+        }
+
         private static String oneOf(String... texts) {
             return texts[RANDOM.nextInt(texts.length)];
         }
@@ -241,7 +257,7 @@ public final class ModelTest {
 
         private static String numeral() {
             switch (RANDOM.nextInt(8)) {
-                case 0: return between();
+                case 0: return RANDOM.nextBoolean() ? between() : between16();
                 case 1: case 2: return of16();
                 case 3: return nearWhole().toString();
                 case 4: return scribble();
@@ -291,6 +307,13 @@ public final class ModelTest {
             exact = exact.signum() == 0 ? BigDecimal.ONE : exact.stripTrailingZeros();
             BigInteger unscaled = exact.unscaledValue().multiply(BigInteger.TEN).add(BigInteger.valueOf(RANDOM.nextInt(3) - 1));
             return unscaled + "e" + (-exact.scale() - 1);
+        }
+
+        private static String between16() {
+            String digits = Long.toHexString((RANDOM.nextLong() >>> 10) | 1L << 53 | 1);
+            String end = oneOf("", "0", "1", "0000000000", "00000000000000001");
+            int point = RANDOM.nextInt(digits.length());
+            return "0x" + digits.substring(0, point) + "." + digits.substring(point) + end + "p" + (RANDOM.nextInt(2200) - 1130);
         }
     }
 
